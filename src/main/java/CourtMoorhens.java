@@ -107,7 +107,7 @@ public final class CourtMoorhens {
             return text.faultKind - FAULT_LESS;
         }
         past.push(hearing);
-        plan.runOn(hearing);
+        plan.run(hearing, 0, plan.size, 0);
         stepsRefused = plan.refused;
         return plan.done;
     }
@@ -497,7 +497,7 @@ public final class CourtMoorhens {
     }
 
     private static boolean has(int bits, int number) {
-        return (bits & bit(number)) != 0;
+        return (bits >> number & 1) != 0;
     }
 
     private static long power(int base, int times) {
@@ -1082,6 +1082,9 @@ public final class CourtMoorhens {
 
         void readFrom(Reader text, Court court) {
             size = 0;
+            begun = 0;
+            done = 0;
+            refused = 0;
             for (int i = 0; i < SHORT_TEXT && text.hasMore(); i++) {
                 readStep(text, court, 0);
                 text.takeSign(';');
@@ -1144,21 +1147,14 @@ public final class CourtMoorhens {
             seconds.set(own, size);
         }
 
-        void runOn(Hearing hearing) {
-            begun = 0;
-            done = 0;
-            refused = 0;
-            runPart(hearing, 0, size, 0);
-        }
-
-        private void runPart(Hearing hearing, int from, int to, int open) {
+        void run(Hearing hearing, int from, int to, int open) {
             int step = from;
             for (int i = 0; i < SHORT_TEXT && step < to && begun < MOST_BEGUN && open <= MOST_OPEN; i++) {
                 begun++;
                 if (kinds.get(step) == AGAIN) {
                     int behind = seconds.get(step);
                     for (int turn = 0; turn < firsts.get(step) && begun < MOST_BEGUN; turn++) {
-                        runPart(hearing, step + 1, behind, open + 1);
+                        run(hearing, step + 1, behind, open + 1);
                     }
                     step = behind;
                 } else {
