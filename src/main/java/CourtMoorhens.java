@@ -252,8 +252,8 @@ public final class CourtMoorhens {
         checkArgument(n >= 0 && n <= 12 && k >= 0 && k <= 13);
         checkArgument(q >= 0 && q <= SIXTEENTHS && (half == 0 || half == 1));
         long above = 0;
-        for (int kind = k; kind <= n; kind++) {
-            above += waysToChoose(n, kind) * power(q, kind) * power(SIXTEENTHS - q, n - kind);
+        for (int many = k; many <= n; many++) {
+            above += waysToChoose(n, many) * power(q, many) * power(SIXTEENTHS - q, n - many);
         }
         long below = power(SIXTEENTHS, n);
         // What stands below is a power of two, so halving alone brings the least terms.
@@ -550,7 +550,7 @@ public final class CourtMoorhens {
         }
     }
 
-    /** The TAPE, and the text that is read from it piece by piece: the piece that is next is known, the rest not yet. */
+    /** The TAPE, and the text that is read from it: the piece that is next is known, what stands behind it not yet. */
     private static final class Reader {
         private static final int END = 0;
         private static final int NUMBER = 1;
@@ -577,7 +577,7 @@ public final class CourtMoorhens {
 
         void start(int n) {
             textEnd = n;
-            // The bytes stay behind the length, where they are read before any others come.
+            // The TAPE is empty by its length alone: its bytes are still to be read.
             length = 0;
             faultKind = 0;
             faultPlace = NONE;
@@ -931,7 +931,9 @@ public final class CourtMoorhens {
         private void readProduct(Reader text, int open) {
             readUnit(text, open);
             for (int i = 0; i < SHORT_TEXT; i++) {
-                int operation = text.seesSign('*') ? TIMES : text.seesSign('/') ? DIVIDE : text.seesSign('%') ? REST : 0;
+                int operation = text.seesSign('*') ? TIMES
+                        : text.seesSign('/') ? DIVIDE
+                        : text.seesSign('%') ? REST : 0;
                 if (operation == 0) {
                     return;
                 }
@@ -1147,16 +1149,13 @@ public final class CourtMoorhens {
             seconds.set(own, size);
         }
 
-        void run(Hearing hearing, int from, int to, int open) {
+        private void run(Hearing hearing, int from, int to, int open) {
             int step = from;
             for (int i = 0; i < SHORT_TEXT && step < to && begun < MOST_BEGUN && open <= MOST_OPEN; i++) {
                 begun++;
                 if (kinds.get(step) == AGAIN) {
-                    int behind = seconds.get(step);
-                    for (int turn = 0; turn < firsts.get(step) && begun < MOST_BEGUN; turn++) {
-                        run(hearing, step + 1, behind, open + 1);
-                    }
-                    step = behind;
+                    repeat(hearing, step, open + 1);
+                    step = seconds.get(step);
                 } else {
                     if (doStep(hearing, kinds.get(step), firsts.get(step), seconds.get(step), thirds.get(step))) {
                         done++;
@@ -1165,6 +1164,12 @@ public final class CourtMoorhens {
                     }
                     step++;
                 }
+            }
+        }
+
+        private void repeat(Hearing hearing, int again, int open) {
+            for (int turn = 0; turn < firsts.get(again) && turn < MOST_AGAIN && begun < MOST_BEGUN; turn++) {
+                run(hearing, again + 1, seconds.get(again), open);
             }
         }
 
@@ -1250,8 +1255,9 @@ public final class CourtMoorhens {
         }
 
         private int walkIfLed(int bird, int later) {
-            return law.walk(court.birdSteps.get(bird), beginIfLed(bird, later), crumbsOf(court.allCounsel(), MOST_CRUMBS),
-                    led.get(bird) + later, Integer.bitCount(noted), bird);
+            int together = crumbsOf(court.allCounsel(), MOST_CRUMBS);
+            return law.walk(court.birdSteps.get(bird), beginIfLed(bird, later), together, led.get(bird) + later,
+                    Integer.bitCount(noted), bird);
         }
 
         private int beginIfLed(int bird, int later) {
@@ -1460,19 +1466,23 @@ public final class CourtMoorhens {
         }
 
         private void leadFrom(int bird, int hidden, int minutes, int way, int unit) {
+            // Of alike ways the first that is come to stays.
             if (hidingMinutes != NONE && minutes >= hidingMinutes) {
                 return;
             }
-            if (bird >= court.birds || bird >= MOST_BIRDS) {
-                if ((wanted & ~hidden) == 0) {
-                    hidingMinutes = minutes;
-                    hidingWay = way;
-                }
-                return;
+            if (bird < court.birds && bird < MOST_BIRDS) {
+                leadBirdEachWay(bird, hidden, minutes, way, unit);
+            } else if ((wanted & ~hidden) == 0) {
+                hidingMinutes = minutes;
+                hidingWay = way;
             }
+        }
+
+        private void leadBirdEachWay(int bird, int hidden, int minutes, int way, int unit) {
             int most = hearing.begins.get(bird) < hearing.minute ? 0 : MOST_LED;
             for (int later = 0; later <= most; later++) {
-                leadFrom(bird + 1, hidden | covered.get(bird * LEADS + later), minutes + later, way + later * unit, unit * 10);
+                int then = hidden | covered.get(bird * LEADS + later);
+                leadFrom(bird + 1, then, minutes + later, way + later * unit, unit * 10);
             }
         }
 

@@ -270,6 +270,24 @@ public final class ModelTest {
         }
     }
 
+    /** Any call that does not read a text, with numbers of any size. */
+    private void askWildly() {
+        List<Method> methods = new ArrayList<>();
+        for (Method method : CourtMoorhens.class.getMethods()) {
+            if (method.getDeclaringClass() == CourtMoorhens.class) {
+                methods.add(method);
+            }
+        }
+        methods.sort((one, other) -> one.getName().compareTo(other.getName()));
+        Method method = methods.get(below(methods.size()));
+        int[] numbers = new int[method.getParameterCount()];
+        int[] wild = {Integer.MIN_VALUE, Integer.MAX_VALUE, -1, 0, 1, random.nextInt(), 1 << below(32)};
+        for (int i = 0; i < numbers.length; i++) {
+            numbers[i] = rarely(2) ? below(3) : wild[below(wild.length)];
+        }
+        call(method.getName(), numbers);
+    }
+
     private boolean run() {
         if (rarely(20)) {
             ask(below(38));
@@ -283,6 +301,9 @@ public final class ModelTest {
                 readSome(below(9));
             } else {
                 ask(below(38));
+            }
+            if (rarely(20)) {
+                askWildly();
             }
             if (rarely(120)) {
                 read("court", spoiled(courtText()));

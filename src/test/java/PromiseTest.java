@@ -117,15 +117,87 @@ public final class PromiseTest {
         same("its rules", x.told(1), 12);
         same("its birds", x.told(2), 4);
         same("its counsel", x.told(3), 4);
+        fullCourt();
         courtFaults();
         courtLeavesAll();
         courtEmpties();
+    }
+
+    /** Every place of a COURT is held, kept by IMAGES and undo, and found again. */
+    private static void fullCourt() {
+        StringBuilder text = new StringBuilder();
+        for (int saying = 0; saying < 9; saying++) {
+            text.append("say ").append(10 + saying).append(' ').append(1 - saying % 2).append(' ');
+            text.append(20 + saying).append(';');
+        }
+        text.append("so 8 8 7;so 7 7 6;").append(times(9, "so 0 0 0;")).append("so 6 7 8;");
+        for (int bird = 0; bird < 4; bird++) {
+            text.append("bird ").append(60 + 10 * bird).append(' ').append(1 + bird).append(';');
+            text.append("counsel ").append(30 + bird).append(' ').append(5 + bird).append(';');
+        }
+        CourtMoorhens x = Check.with(text.toString());
+        fullIs(x, 0);
+        same("the last rule", x.follows(0x80) + x.follows(0xc0), 0x1c0 + 0x1c0);
+        Check.work(x, "lead 0 0 1;lead 1 1 2;lead 2 2 3;lead 3 3 4;" + times(4, "put 3 8 5;") + "put 3 0 1;put 3 1 2;again 5[minute;];");
+        x.image();
+        same("the last is put off", x.saying(8, 0), 38);
+        Check.work(x, "lead 3 0 4;lead 2 1 3;lead 1 2 2;lead 0 3 1;put 0 8 5;put 0 0 5;again 5[minute;];");
+        fullLed(x, 10, new int[] {5, 5, 5, 5}, new int[] {2, 4, 6, 8}, 43);
+        same("counsel led both", x.purse(15), 126 - 20);
+        same("a term changes none of it", x.term(99, 16, 48, 3) < 126 - 20 ? 1 : 0, 1);
+        fullLed(x, 10, new int[] {5, 5, 5, 5}, new int[] {2, 4, 6, 8}, 43);
+        x.undo();
+        fullLed(x, 5, new int[] {1, 2, 3, 4}, new int[] {1, 2, 3, 4}, 38);
+        same("the second, undone", x.saying(0, 0) * 100 + x.saying(1, 0), 1113);
+        x.undo();
+        fullIs(x, 0);
+        Check.work(x, "minute;");
+        x.restore();
+        fullLed(x, 5, new int[] {1, 2, 3, 4}, new int[] {1, 2, 3, 4}, 38);
+        x.undo();
+        fullIs(x, 0);
+        Check.work(x, "lead 0 0 1;lead 1 1 2;lead 2 2 3;lead 3 3 4;minute;");
+        Check.court(x, text.toString());
+        fullIs(x, 0);
+    }
+
+    private static void fullIs(CourtMoorhens x, int minute) {
+        same("full: the minute", x.told(4), minute);
+        for (int saying = 0; saying < 9; saying++) {
+            same("full: said " + saying, x.saying(saying, 0), 10 + saying);
+            same("full: side " + saying, x.saying(saying, 1), 1 - saying % 2);
+            same("full: weight " + saying, x.saying(saying, 2), 20 + saying);
+        }
+        for (int i = 0; i < 4; i++) {
+            same("full: bird " + i, x.bird(i, 0), 60 + 10 * i);
+            same("full: steps " + i, x.bird(i, 1), 1 + i);
+            same("full: led " + i, x.bird(i, 3), 0);
+            same("full: crumbs " + i, x.counsel(i, 0), 30 + i);
+            same("full: sly " + i, x.counsel(i, 1), 5 + i);
+        }
+    }
+
+    private static void fullLed(CourtMoorhens x, int minute, int[] led, int[] given, int last) {
+        same("full, led: the minute", x.told(4), minute);
+        for (int i = 0; i < 4; i++) {
+            same("full, led: bird " + i, x.bird(i, 0), 60 + 10 * i + led[i]);
+            same("full, led: led " + i, x.bird(i, 3), led[i]);
+            same("full, led: crumbs " + i, x.counsel(i, 0), 30 + i - given[i]);
+            same("full, led: walk " + i, x.bird(i, 2), 1 + i);
+        }
+        same("full, led: the last saying", x.saying(8, 0), last);
     }
 
     private static void courtFaults() {
         courtFault("x", 1, 0);
         courtFault(" says 1 1 1;", 1, 1);
         courtFault("sa 1 1 1;", 1, 0);
+        courtFault("bay 1 1 1;", 1, 0);
+        courtFault("sayz 1 1 1;", 1, 0);
+        courtFault("say`1 1 1;", 1, 3);
+        courtFault("say{1 1 1;", 1, 3);
+        courtFault("say/1 1 1;", 1, 3);
+        courtFault("say:1 1 1;", 1, 3);
         courtFault("Say 1 1 1;", 1, 0);
         courtFault("minute;", 1, 0);
         courtFault("1", 1, 0);
@@ -195,7 +267,9 @@ public final class PromiseTest {
         CourtMoorhens x = farm();
         Check.law(x, "7");
         Check.book(x, "1 1;");
-        Check.work(x, "minute;note 0;lead 0 1 5;put 0 3 2;call 1 0;note 1;");
+        Check.law(x, "6+1");
+        Check.work(x, "again 5[minute;];note 1;lead 0 1 5;put 0 3 2;call 1 0;note 0;");
+        same("one is noted", x.told(8), 2);
         x.image();
         same("court again", Check.court(x, FARM), 4);
         same("minute 0", x.told(4), 0);
@@ -256,6 +330,8 @@ public final class PromiseTest {
         lawIs("((((((7))))))", 7);
         lawIs("(1)+((((((7-1))))))", 7);
         lawIs("least[(((((9))))),most[1,2]]", 2);
+        lawIs(times(6, "least[") + "8" + times(6, ",9]"), 8);
+        lawIs(times(6, "most[8,") + "9" + times(6, "]"), 9);
         // Values wrap: 4985014995 is 690047699, and 2991008997 is -1303958299.
         lawIs("999*999*999*5/999/999-660", 31);
         lawIs("999*999*999*3/999/999/9+169", 24);
@@ -298,6 +374,8 @@ public final class PromiseTest {
         lawFault("((((((most", 3, 6);
         lawFault("((((((leas", 1, 6);
         lawFault(times(6, "most[1,") + " (1)" + times(6, "]"), 3, 43);
+        lawFault(times(7, "least["), 3, 36);
+        lawFault(times(7, "most[1,"), 3, 42);
     }
 
     private static void lawLeavesAll() {
@@ -441,6 +519,12 @@ public final class PromiseTest {
         same("refused", x.told(10), 1);
         same("began ahead", Check.work(x, "minute;call 0 0;call 0 1;"), 1);
         same("no crumb for that", x.counsel(0, 0), 1);
+        CourtMoorhens y = Check.with("bird 5 2;bird 8 2;counsel 1 0;");
+        Check.law(y, "begin + 10 * crumbs");
+        same("walk ahead of a call", y.bird(1, 2), 18);
+        same("the last crumb", Check.work(y, "minute;call 0 0;call 0 1;"), 2);
+        same("walk behind it", y.bird(0, 2), 1);
+        same("walk of the other behind it", y.bird(1, 2), 8);
     }
 
     private static void leads() {
@@ -680,6 +764,9 @@ public final class PromiseTest {
             same("bird 0, led: " + what, x.bird(0, what), led[what]);
         }
         same("bird 1 by crumbs of all", x.bird(1, 2), 2 + 0 + 10 + 7 / 5 + 2);
+        CourtMoorhens rich = Check.with("bird 0 1;" + times(4, "counsel 40 0;"));
+        Check.law(rich, "crumbs - 130");
+        same("by all the crumbs that can be", rich.bird(0, 2), 30);
         CHECK.refusesArgument("bird 0 5", () -> x.bird(0, 5));
         CHECK.refusesArgument("bird 1 -1", () -> x.bird(1, -1));
         CHECK.refusesMissing("bird 2 0", () -> x.bird(2, 0));
@@ -741,6 +828,7 @@ public final class PromiseTest {
         same("said at 8", x.at(8, 1), 12);
         same("said at 5, though it does not count", x.at(5, 1), 2);
         same("nothing at 9", x.at(9, 1), 0);
+        same("no bird at 0", x.at(0, 0), 0);
         same("lean at 1", x.at(1, 2), 0);
         same("lean at 2", x.at(2, 2), 9);
         same("lean at 7", x.at(7, 2), 9);
@@ -797,6 +885,13 @@ public final class PromiseTest {
         CourtMoorhens y = Check.with("say 5 0 1;say 9 0 1;say 14 0 1;say 20 0 1;bird 4 1;bird 8 1;bird 12 1;bird 11 1;");
         same("all four", y.hide(15, 0), 1 + 1 + 2 + 9);
         same("each its own", y.hide(15, 1), 9211);
+        CourtMoorhens wide = Check.with("say 20 0 1;bird 10 1;bird 10 1;");
+        same("not by 10", wide.hide(1, 0), -1);
+        CourtMoorhens begun = Check.with("say 10 0 1;bird 9 1;bird 5 1;");
+        Check.work(begun, "again 9[minute;];");
+        same("one that begins now leads on", begun.hide(1, 1), 1);
+        Check.work(begun, "minute;");
+        same("neither can be led", begun.hide(1, 0), -1);
         CourtMoorhens z = Check.with("say 9 0 1;bird 4 2;counsel 7 0;");
         Check.law(z, "steps + led");
         same("led as it would be then", z.hide(1, 0), 2);
@@ -866,6 +961,25 @@ public final class PromiseTest {
         CourtMoorhens w = Check.with("say 0 0 5;say 1 1 2;say 5 1 4;bird 1 1;so 1 1 2;");
         Check.work(w, "minute;");
         same("with what follows", w.turn(), 2);
+        CourtMoorhens u = Check.with("say 0 1 2;say 0 1 3;bird 0 1;");
+        same("from 0 to above 0", u.turn(), 1);
+        CourtMoorhens both = Check.with("say 1 1 2;say 1 1 3;so 0 0 1;bird 1 1;say 0 0 4;");
+        Check.work(both, "minute;");
+        same("one by what follows", both.turn(), 1);
+        CourtMoorhens whole = Check.with("say 1 1 0;say 1 1 0;say 99 1 9;so 0 1 2;bird 1 1;");
+        Check.work(whole, "minute;");
+        same("two, of which one alone does nothing", whole.turn(), 3);
+        CourtMoorhens every = Check.with("say 1 0 1;say 1 1 2;say 1 1 3;say 1 1 4;so 1 2 3;so 3 3 0;bird 1 1;");
+        Check.work(every, "minute;");
+        same("the least bits of alike ones", every.turn(), 2);
+        CourtMoorhens one = Check.with("say 0 1 1;say 1 0 1;bird 1 1;");
+        Check.work(one, "minute;");
+        same("1 is above 0", one.turn(), 2);
+        CourtMoorhens two = Check.with("say 1 1 1;say 1 1 1;say 0 0 1;bird 1 1;");
+        Check.work(two, "minute;");
+        same("1 against 1 is not enough", two.turn(), 3);
+        CourtMoorhens most = Check.with("say 0 1 0;say 0 1 0;say 0 1 1;so 0 1 2;bird 0 1;");
+        same("the last one alone", most.turn(), 4);
         CourtMoorhens v = Check.with("say 0 0 5;say 1 1 5;bird 1 1;");
         Check.work(v, "minute;");
         same("0 would not be above 0", v.turn(), -1);
@@ -919,6 +1033,12 @@ public final class PromiseTest {
         Check.book(x, "0 0;");
         same("no pair fits", x.look(0), 1);
         same("none is left", x.look(1), 0);
+        CourtMoorhens half = Check.with("say 5 0 1;say 30 0 1;bird 1 5;");
+        same("the first counts by half", half.look(0), 0);
+        same("half are left", half.look(1), 5);
+        CourtMoorhens nine = Check.with(times(8, "say 99 0 1;") + "say 5 0 1;bird 1 5;");
+        same("the ninth", nine.look(0), 8);
+        same("half are left by the ninth", nine.look(1), 5);
         CourtMoorhens empty = Check.with("bird 3 3;");
         same("no sayings", empty.look(0), -1);
         same("no sayings, left", empty.look(1), -1);
@@ -1179,6 +1299,8 @@ public final class PromiseTest {
         Check.law(x, "1 + steps * 4");
         same("the first with three", x.crowd(0), 21);
         same("three", x.crowd(1), 3);
+        CourtMoorhens y = Check.with("bird 0 1;bird 9 1;");
+        same("at 0", y.crowd(0), 0);
         CHECK.refusesArgument("crowd 2", () -> x.crowd(2));
         CHECK.refusesArgument("crowd -1", () -> x.crowd(-1));
     }
@@ -1207,6 +1329,11 @@ public final class PromiseTest {
         same("behind 5", x.when(0), 12);
         same("at 5", x.when(1), 2);
         same("ahead of 5", x.when(2), 1);
+        CourtMoorhens y = Check.with("say 0 0 1;say 1 0 1;say 2 0 1;say 3 0 1;say 4 0 1;");
+        Check.work(y, "minute;minute;");
+        same("one behind", y.when(0), 24);
+        same("just now", y.when(1), 4);
+        same("one ahead", y.when(2), 3);
         CHECK.refusesArgument("when 3", () -> x.when(3));
         CHECK.refusesArgument("when -1", () -> x.when(-1));
         CourtMoorhens far = farAway();
@@ -1261,25 +1388,52 @@ public final class PromiseTest {
         }
     }
 
-    private static void oneMinute() {
-        String court = "say 0 1 3;say 0 0 7;say 5 1 20;bird 0 1;bird 0 4;bird 5 1;counsel 40 0;counsel 20 0;";
-        for (int seed = -20; seed < 60; seed++) {
+    /** A TERM is what a WORK of the same draws would do. */
+    private static void playsLike(String court, String law, String work, int q, int minutes) {
+        int sayings = Check.with(court).told(0);
+        int birds = Check.with(court).told(2);
+        int counsels = Check.with(court).told(3);
+        for (int seed = -20; seed < 20; seed++) {
             CourtMoorhens x = Check.with(court);
             CourtMoorhens by = Check.with(court);
-            Draws draws = new Draws(seed * 7919);
-            int counsel = draws.below(2);
-            int bird = draws.below(3);
-            if (draws.below(16) < 9) {
-                Check.work(by, "lead " + counsel + " " + bird + " " + (1 + draws.below(9)) + ";");
-            } else {
-                Check.work(by, "call " + counsel + " " + bird + ";");
+            Check.law(x, law);
+            Check.law(by, law);
+            Check.work(x, work);
+            Check.work(by, work);
+            Draws draws = new Draws(seed * 79190719);
+            for (int minute = 0; minute < minutes; minute++) {
+                if (counsels > 0 && birds > 0) {
+                    int counsel = draws.below(counsels);
+                    int bird = draws.below(birds);
+                    boolean lead = draws.below(16) < q;
+                    Check.work(by, lead ? "lead " + counsel + " " + bird + " " + (1 + draws.below(9)) + ";"
+                            : "call " + counsel + " " + bird + ";");
+                }
+                Check.work(by, sayings > 0 ? "note " + draws.below(sayings) + ";minute;" : "minute;");
             }
-            Check.work(by, "note " + draws.below(3) + ";minute;");
-            int[] due = {by.told(5), by.lean(), by.told(8), by.purse(3)};
+            int[] due = {by.told(5), by.lean(), by.told(8), by.purse((1 << counsels) - 1)};
             for (int what = 0; what < 4; what++) {
-                same("a minute by seed " + seed * 7919 + ", " + what, x.term(seed * 7919, 9, 1, what), due[what]);
+                same("term by seed " + seed * 79190719 + " in " + court + ", " + what,
+                        x.term(seed * 79190719, q, minutes, what), due[what]);
             }
         }
+    }
+
+    private static void oneMinute() {
+        String sayings = "say 0 1 3;say 0 0 7;say 5 1 20;say 3 0 30;say 1 1 40;";
+        String birds = "bird 0 1;bird 0 4;bird 5 1;";
+        String counsel = "counsel 40 0;counsel 20 0;";
+        playsLike(sayings + birds + counsel, "steps", "", 9, 1);
+        playsLike(sayings + birds + counsel, "steps", "", 9, 7);
+        playsLike(sayings + birds + counsel, "steps + led % 3 - notes + crumbs % 4", "lead 0 1 2;lead 1 2 1;note 0;minute;", 12, 7);
+        playsLike(times(8, "say 0 1 3;") + "say 1 0 50;" + times(3, "bird 0 3;") + "bird 2 1;" + times(3, "counsel 3 0;")
+                + "counsel 40 9;", "1 + led + crumbs / 9 + notes", "lead 3 3 1;put 3 8 2;", 12, 7);
+        playsLike(sayings + birds, "2 + notes", "", 9, 7);
+        playsLike(sayings + counsel, "steps", "", 9, 7);
+        playsLike(birds + counsel, "steps", "", 5, 7);
+        playsLike("say 0 1 3;bird 0 3;counsel 9 0;", "1 + crumbs / 2", "note 0;", 8, 7);
+        playsLike("say 1 1 3;bird 30 3;counsel 9 0;", "1 + crumbs / 2", "", 0, 7);
+        playsLike("say 1 1 3;bird 0 3;counsel 40 0;", "1 + crumbs / 2", "", 16, 7);
     }
 
     private static void spans() {
@@ -1300,6 +1454,9 @@ public final class PromiseTest {
         same("all count", x.span(3, 10, 0, 1, 2, 1), 10);
         same("one lean of below 0", Check.with("say 0 0 9;").span(3, 10, 0, 1, 1, 0), -9);
         same("one lean above 0", Check.with("say 0 1 9;").span(3, 10, 0, 1, 0, 0), 9);
+        same("the most of one lean below 0", Check.with("say 0 0 9;").span(3, 1, 0, 1, 1, 0), -9);
+        same("the least of one lean above 0", Check.with("say 0 1 9;").span(3, 1, 0, 1, 0, 0), 9);
+        same("one that never counts", Check.with("say 0 1 9;bird 0 1;").span(3, 10, 0, 9, 2, 0), 0);
         for (int wrong : new int[] {-1, 0, 11, MIN, MAX}) {
             CHECK.refusesArgument("span many " + wrong, () -> x.span(1, wrong, 0, 1, 0, 0));
         }
@@ -1376,6 +1533,21 @@ public final class PromiseTest {
             same("undo again to " + i, x.undo(), i);
             same("the minute of " + i, x.told(4), i);
         }
+        CourtMoorhens z = farm();
+        Check.work(z, "minute;");
+        Check.work(z, "minute;minute;put 0 2 2;");
+        z.image();
+        z.undo();
+        z.undo();
+        Check.work(z, "again 9[minute;];");
+        Check.work(z, "lead 0 0 2;");
+        Check.work(z, "lead 0 1 2;");
+        same("an image of two works", z.restore(), 0);
+        same("its state", z.told(4) * 100 + z.saying(2, 0), 310);
+        same("undo its second", z.undo(), 1);
+        same("as ahead of it", z.told(4) * 100 + z.saying(2, 0), 108);
+        same("undo its first", z.undo(), 0);
+        same("as told", z.told(4) * 100 + z.bird(1, 0), 20);
         CourtMoorhens y = farm();
         y.image();
         CHECK.refusesArgument("told 12", () -> y.told(12));
