@@ -36,6 +36,10 @@ final class Check {
         }
     }
 
+    int asked() {
+        return asked;
+    }
+
     /** Ends the test's main: prints the sum and sets the exit code. */
     void end(String test) {
         System.out.println(test + ": " + asked + " checks, " + wrong + " wrong");
