@@ -119,6 +119,7 @@ abstract class Edges {
             for (int what = 1; what <= 4; what++) {
                 all.append(" bird ").append(x.bird(bird, what));
             }
+            all.append(" leaders ").append(x.leaders(bird, 1)).append(" over ").append(x.over(bird));
         }
         for (int counsel = 0; counsel < x.told(3); counsel++) {
             all.append(" sly ").append(x.counsel(counsel, 1));
@@ -130,7 +131,16 @@ abstract class Edges {
             all.append(" fits ").append(x.fits(what)).append(" look ").append(x.look(what));
         }
         for (int what = 0; what <= 2; what++) {
-            all.append(" count ").append(x.count(what));
+            all.append(" count ").append(x.count(what)).append(" when ").append(x.when(what));
+            all.append(" sides ").append(x.side(0, what)).append(' ').append(x.side(1, what));
+        }
+        all.append(" turn ").append(x.turn()).append(" used ").append(x.used()).append(" pairs ").append(x.pairs());
+        all.append(" crowd ").append(x.crowd(0)).append(' ').append(x.crowd(1)).append(" clear ").append(x.clear());
+        all.append(" hide ").append(x.hide((1 << x.told(0)) - 1, 1)).append(" next ").append(x.next(0));
+        all.append(" loss ").append(x.loss(0)).append(" points ").append(x.point(0, 0)).append(x.point(1, 0));
+        all.append(" purse ").append(x.purse((1 << x.told(3)) - 1)).append(" term");
+        for (int what = 0; what <= 3; what++) {
+            all.append(' ').append(x.term(77, 8, 9, what));
         }
         all.append(" would ").append(x.would(5, 33, 21, 12, 2, 3)).append(' ').append(x.would(20, 400, 160, 999, 9, 0));
         return all.append(" fault ").append(x.fault()).append(" lean ").append(x.lean()).toString();

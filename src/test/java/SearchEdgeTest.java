@@ -81,6 +81,8 @@ public final class SearchEdgeTest extends Edges {
     private static void termHide_leadsABirdBy9AtTheMost() {
         hideIs(court("say 14 1 1;bird 5 1;"), 1, 9, 9);
         hideIs(court("say 15 1 1;bird 5 1;"), 1, -1, -1);
+        hideIs(court("say 14 1 1;bird 5 1;bird 50 1;bird 60 1;bird 70 1;"), 1, 9, 9);
+        hideIs(court("say 14 1 1;bird 50 1;bird 60 1;bird 5 1;bird 70 1;"), 1, 9, 900);
     }
 
     private static void termHide_doesNotBringABirdEarlier() {
@@ -319,6 +321,9 @@ public final class SearchEdgeTest extends Edges {
         pairsAre(withBook("say 5 1 1;bird 5 1;", "0 0;"), 1, 0);
         pairsAre(withBook("say 14 1 1;bird 5 1;", "0 0;"), 1, 9);
         pairsAre(withBook("say 15 1 1;bird 5 1;", "0 0;"), 0, -1);
+        pairsAre(withBook("say 14 1 1;bird 5 1;bird 50 1;", "0 0;"), 1, 9);
+        pairsAre(withBook("say 14 1 1;bird 50 1;bird 5 1;bird 60 1;", "0 0;"), 1, 19);
+        pairsAre(withBook("say 14 1 1;bird 5 1;bird 15 1;", "0 0;"), 1, 9);
     }
 
     private static void termFits_theLastPairOfAll() {

@@ -710,6 +710,14 @@ public final class TextEdgeTest extends Edges {
         is(y.would(7, 0, 0, 0, 0, 0), 1);
         Check.feed(y, "minute;");
         faultIs(y, y.work(3), 1, 0);
+        Check.feed(y, "minutes;");
+        faultIs(y, y.work(6), 1, 6);
+        Check.feed(y, "stepsteps");
+        is(y.law(5), 1);
+        Check.feed(y, "note      1;");
+        faultIs(y, y.work(6), 1, 6);
+        Check.feed(y, "          ");
+        faultIs(y, y.law(4), 1, 4);
     }
 
     private static void termFault2_isANumberThatIsNoneSuch() {
@@ -960,6 +968,19 @@ public final class TextEdgeTest extends Edges {
         Check.court(x, text);
         for (int bird = 0; bird < 4; bird++) {
             is(x.bird(bird, 0) * 10 + x.bird(bird, 3), 50);
+        }
+    }
+
+    private static void promise03Court_fewerOfEachThanBefore() {
+        String full = times(9, "say 0 1 60;") + times(12, "so 0 0 8;") + times(4, "bird 0 20;") + times(4, "counsel 40 9;");
+        for (String few : new String[] {"say 0 0 1;so 0 0 0;bird 3 2;counsel 1 0;", "say 5 0 1;bird 3 2;",
+            "bird 9 1;counsel 2 0;", times(8, "say 3 1 1;") + times(3, "bird 3 1;counsel 2 0;"), " "}) {
+            CourtMoorhens x = behind(full, "minute;lead 0 0 9;note 8;note 7;");
+            Check.book(x, "8 1;0 0;");
+            // What was asked of the fuller one is asked again.
+            is(all(x).equals(all(court(few))) ? 1 : 0, 0);
+            Check.court(x, few);
+            isText(all(x), all(court(few)));
         }
     }
 
